@@ -799,7 +799,7 @@ public final class TypeScribe {
    * far deeper than calls may be.
    */
   private static final class Store {
-    private static final int FIRST_CELLS = 1024;
+    private static final int FIRST_CELLS = 256;
     private static final int MOST_TOLD_CODES = 256;
 
     private int[] kinds = new int[FIRST_CELLS];
@@ -1162,56 +1162,17 @@ public final class TypeScribe {
     }
   }
 
-  /**
-   * Pairs of cells that were made one already, to make none of them one again: what stands in a
-   * type many times would take far too long otherwise. A pair may be lost, which does no harm.
-   */
-  private static final class Pairs {
-    private static final int ROOM = 1024;
-    private static final int TRIES = 8;
-
-    private final int[] lefts = new int[ROOM];
-    private final int[] rights = new int[ROOM];
-    private final int[] rounds = new int[ROOM];
-    private int round;
-
-    void wipe() {
-      round++;
-    }
-
-    boolean isNew(int left, int right) {
-      int home = ((left * 31 + right) * 17) & (ROOM - 1);
-      int free = home;
-      for (int i = 0; i < TRIES; i++) {
-        int place = (home + i) & (ROOM - 1);
-        if (rounds[place] != round) {
-          free = place;
-          break;
-        }
-        if (lefts[place] == left && rights[place] == right) {
-          return false;
-        }
-      }
-      lefts[free] = left;
-      rights[free] = right;
-      rounds[free] = round;
-      return true;
-    }
-  }
-
   /** Makes TYPES one. */
   private static final class Maker {
     private final Store store = new Store();
     private final Pile work = new Pile(64);
     private final Pile bound = new Pile(64);
-    private final Pairs pairs = new Pairs();
     private int left;
     private int right;
     private int why;
 
     void wipe() {
       store.wipe();
-      pairs.wipe();
       why = 0;
     }
 
@@ -1270,10 +1231,10 @@ public final class TypeScribe {
         return;
       }
       int beneath = beneath(kind);
-      if (beneath > 0 && pairs.isNew(one, other)) {
-        if (beneath == 2) {
-          put(store.other(one), store.other(other));
-        }
+      if (beneath == 2) {
+        put(store.other(one), store.other(other));
+      }
+      if (beneath >= 1) {
         put(store.one(one), store.one(other));
       }
     }

@@ -95,6 +95,32 @@ public final class LargeTest {
     check.equal("small again", x.typeSize(value), 19);
   }
 
+  /** More cells than the store has at first: each NAME is a copy of 73 codes. */
+  static void manyCells() {
+    check.promise(26);
+    TypeScribe x = new TypeScribe();
+    x.assume(0, PromiseTest.tell(x, 20));
+    x.clear();
+    int t = PromiseTest.tell(x, 3, 2, 20, 2, 21, 2, 22, 2, 23, 2, 24, 2, 25, 2, 20, 20,
+        2, 5, 10, 20, 11, 21, 12, 22, 30, 2, 21, 2, 22, 2, 23, 2, 24, 2, 25, 25);
+    int base = x.written(x.name(0), t);
+    int one = x.two(19, x.name(4), x.name(4));
+    int other = x.two(19, x.name(4), x.name(4));
+    int body = x.two(8, one, other);
+    int inner = x.let(false, 4, twice(x, 3), body);
+    int all = x.let(false, 3, base, inner);
+    check.equal("found", x.find(all), 0);
+    check.equal("base", x.typeSize(base), 36);
+    check.equal("general", x.general(all), 7);
+    check.equal("general", x.general(inner), 14);
+    check.equal("a NAME", x.typeSize(one - 1), 73);
+    check.equal("the same VARIABLES", x.typeAt(one - 1, 72), x.typeAt(other - 2, 72));
+    check.equal("last VARIABLE", x.typeAt(one - 1, 72), 112);
+    check.equal("compare", x.compare(one - 1, one - 1), -1);
+    check.equal("culprit", x.culprit(all), -1);
+    check.equal("digest", x.digest(), PromiseTest.digest(x));
+  }
+
   static void deep() {
     check.promise(26);
     TypeScribe x = new TypeScribe();
@@ -126,6 +152,7 @@ public final class LargeTest {
     limit();
     writtenTooLarge();
     manyCodes();
+    manyCells();
     deep();
     manyCalls();
     check.end("LargeTest");

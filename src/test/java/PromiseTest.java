@@ -209,6 +209,22 @@ public final class PromiseTest {
     found("names around", x, outer, 1);
     check.equal("general of the inner", x.general(inner), 1);
     check.equal("general of the outer", x.general(outer), 0);
+    x.clear();
+    int after = x.two(8, x.let(false, 1, x.number(), x.name(1)), x.name(1));
+    failed("behind a LET the name has nothing", x, after, 3, after - 1);
+    after = x.two(8, x.let(true, 1, x.number(), x.name(1)), x.name(1));
+    failed("nor behind a REC", x, after, 3, after - 1);
+    check.promise(5);
+    after = x.two(8, x.fun(1, x.name(1)), x.name(1));
+    failed("nor behind a FUN", x, after, 3, after - 1);
+    check.promise(11);
+    after = x.two(8, x.unlink(x.empty(), x.number(), 1, 2, x.number()), x.name(1));
+    failed("behind an UNLINK the HEAD has nothing", x, after, 3, after - 1);
+    after = x.two(8, x.unlink(x.empty(), x.number(), 1, 2, x.number()), x.name(2));
+    failed("nor has the TAIL", x, after, 3, after - 1);
+    x.clear();
+    int both = x.two(8, x.unlink(x.empty(), x.number(), 0, 0, x.number()), x.name(0));
+    found("what the name had ahead of it", x, x.fun(0, both), 2, 100, 3, 0, 100);
   }
 
   static void chooses() {
@@ -357,6 +373,9 @@ public final class PromiseTest {
     found("a ROW that is open", x, open, 2, 5, 11, 100, 101, 5, 101);
     int both = x.fun(0, x.two(8, x.at(false, 1, x.name(0)), x.at(false, 0, x.name(0))));
     found("labels as they come", x, both, 2, 5, 10, 100, 11, 101, 102, 3, 101, 100);
+    int rest = x.fun(0, x.two(8, x.at(false, 1, x.name(0)), x.at(true, 0, x.name(0))));
+    found("what is behind grows too", x, rest,
+        2, 5, 10, 100, 11, 101, 102, 3, 101, 5, 11, 101, 102);
   }
 
   /** The same ROW behind different FIELDS can never be one. */
@@ -369,6 +388,14 @@ public final class PromiseTest {
     int f = x.fun(0, choose);
     failed("same VARIABLE behind", x, f, 2, choose);
     unlikes("both", x, row(5, 10, 0, 100), row(5, 11, 0, 100));
+    x.clear();
+    int far = x.with(3, x.number(), x.with(2, x.truth(), x.with(1, x.empty(), x.bare())));
+    int open = x.at(true, 1, x.at(true, 2, x.name(0)));
+    int pass = x.two(4, x.fun(0, open), far);
+    found("FIELDS behind others", x, pass, 5, 13, 0, 7);
+    int near = x.with(1, x.empty(), x.with(2, x.truth(), x.with(3, x.number(), x.bare())));
+    far = x.with(3, x.number(), x.with(2, x.truth(), x.with(1, x.empty(), x.bare())));
+    found("all the other way round", x, x.two(19, near, far), 1);
     x.clear();
     // the FIELDS of the left ROW come as they stand in it: label 3 ahead of label 1
     int l = x.with(3, x.number(), x.with(1, x.number(), x.bare()));
@@ -859,6 +886,13 @@ public final class PromiseTest {
     int late = x.two(18, x.number(), x.number());
     int bad = x.two(8, late, x.name(3));
     check.equal("unknown", x.culprit(bad), bad - 1);
+    x.clear();
+    int wrong = x.two(18, x.truth(), x.half(false, x.two(8, x.truth(), x.truth())));
+    check.equal("both PARTS are wrong", x.culprit(wrong), wrong);
+    int two = x.two(18, x.half(false, x.two(8, x.truth(), x.truth())), x.number());
+    check.equal("the one beneath the first", x.culprit(two), two - 5);
+    int scope = x.fun(0, x.two(18, x.half(false, x.name(0)), x.two(4, x.name(0), x.number())));
+    check.equal("a name that is a pair and a function", x.culprit(scope), scope - 6);
   }
 
   static void digests() {
