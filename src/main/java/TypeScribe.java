@@ -61,22 +61,31 @@ public final class TypeScribe {
   private static final int TOO_LARGE = 4;
 
   // Bounds of loops, of recursion and of what is kept, far above what any run needs.
-  private static final int MOST_STEPS = 1000000;
-  private static final int MOST_CELLS = 131072;
+  private static final int MOST_STEPS = 1073741824;
+  private static final int MOST_CELLS = 262144;
   private static final int MOST_ITEMS = 1048576;
   private static final int DEEPEST = 20;
 
+  // A TYPE may have more codes than a long counts: from here on they are not counted further.
+  private static final long MOST_CODES = 1L << 60;
+  private static final int LAST_PLACE = 2147483647;
+
   private static final long DIGEST_START = 58045L;
 
-  private final Finder finder = new Finder();
-  private final Nodes built = finder.nodes;
-  private final Told told = finder.told;
-  private final Pile[] assumed = finder.assumed;
-  private final Result latest = new Result();
+  private final Nodes built = new Nodes();
+  private final Told told = new Told();
+  private final Pile[] assumed = new Pile[NAMES];
+  // what find() found stays in its own finder; all other calls ask the second one
+  private final Finder finder = new Finder(built, told, assumed);
+  private final Finder asker = new Finder(built, told, assumed);
+  private final Result latest = new Result(finder);
   private final Pile oneRow = new Pile(LARGEST_TYPE);
   private final Pile otherRow = new Pile(LARGEST_TYPE);
 
   public TypeScribe() {
+    for (int i = 0; i < NAMES; i++) {
+      assumed[i] = new Pile(LARGEST_ASSUMED);
+    }
   }
 
   // ---- expressions
@@ -281,12 +290,7 @@ public final class TypeScribe {
     needNode(node);
     needFindable(node);
     int why = finder.seek(node, NONE, NONE);
-    latest.startAnew(why, finder.failedAt);
-    if (why == 0) {
-      keepTypes(node);
-    } else if (why == UNLIKE || why == ENDLESS) {
-      finder.tellUnlike(latest.lefts, latest.rights);
-    }
+    latest.startAnew(why, node);
     return why;
   }
 
@@ -295,7 +299,7 @@ public final class TypeScribe {
   }
 
   public int where() {
-    return latest.failedAt;
+    return latest.failedAt();
   }
 
   public int typeAt(int node, int place) {
@@ -311,12 +315,11 @@ public final class TypeScribe {
   }
 
   public int unlike(boolean isRight, int place) {
-    Pile row = isRight ? latest.rights : latest.lefts;
-    return row.has(place) ? row.get(place) : NONE;
+    return latest.unlikeAt(isRight, place);
   }
 
   public int variables() {
-    return latest.variables;
+    return latest.variablesOfAll();
   }
 
   // ---- comparing, and what would be
@@ -326,17 +329,24 @@ public final class TypeScribe {
     needNode(other);
     needFindable(one);
     needFindable(other);
-    if (finder.seek(one, NONE, NONE) != 0) {
+    if (asker.seek(one, NONE, NONE) != 0) {
       return NONE;
     }
-    oneRow.wipe();
-    finder.tellType(one, oneRow);
-    if (finder.seek(other, NONE, NONE) != 0) {
+    asker.tellType(one, oneRow);
+    if (asker.seek(other, NONE, NONE) != 0) {
       return NONE;
     }
-    otherRow.wipe();
-    finder.tellType(other, otherRow);
-    return finder.relation(oneRow, otherRow);
+    asker.tellType(other, otherRow);
+    if (oneRow.isLike(otherRow)) {
+      return 0;
+    }
+    if (asker.canBecome(oneRow, otherRow, FIXED)) {
+      return 1;
+    }
+    if (asker.canBecome(otherRow, oneRow, FIXED)) {
+      return 2;
+    }
+    return asker.canBecome(oneRow, otherRow, VARIABLE) ? 3 : 4;
   }
 
   public boolean canBe(int node, int type)
@@ -345,13 +355,12 @@ public final class TypeScribe {
     needType(type);
     needNoRow(type);
     needFindable(node);
-    if (finder.seek(node, NONE, NONE) != 0) {
+    if (asker.seek(node, NONE, NONE) != 0) {
       return false;
     }
-    oneRow.wipe();
-    finder.tellType(node, oneRow);
+    asker.tellType(node, oneRow);
     told.write(type, otherRow);
-    return finder.comesOf(oneRow, otherRow);
+    return asker.canBecome(oneRow, otherRow, FIXED);
   }
 
   public int wouldBe(int node, int part, int type)
@@ -364,20 +373,20 @@ public final class TypeScribe {
     }
     needNoRow(type);
     needFindable(node);
-    told.write(type, finder.asked);
-    return finder.seek(node, NONE, part);
+    told.write(type, asker.asked);
+    return asker.seek(node, NONE, part);
   }
 
   public int culprit(int node) throws IndexOutOfBoundsException, IllegalStateException {
     needNode(node);
     needFindable(node);
-    if (finder.seek(node, NONE, NONE) == 0) {
+    if (asker.seek(node, NONE, NONE) == 0) {
       return NONE;
     }
     for (int extent = 1; extent <= LARGEST_FOUND; extent++) {
       for (int part = 0; part <= node; part++) {
         boolean isAsked = built.extent(part) == extent && built.isIn(part, node);
-        if (isAsked && finder.seek(node, part, NONE) == 0) {
+        if (isAsked && asker.seek(node, part, NONE) == 0) {
           return part;
         }
       }
@@ -469,19 +478,6 @@ public final class TypeScribe {
 
   // ---- helpers of the calls
 
-  private void keepTypes(int root) {
-    for (int node = 0; node <= root; node++) {
-      if (built.isIn(node, root)) {
-        latest.begin(node, finder.generalsOf(node));
-        int variables = finder.tellType(node, latest.codes);
-        latest.finish(node);
-        if (node == root) {
-          latest.variables = variables;
-        }
-      }
-    }
-  }
-
   private static boolean isOfTwo(int code) {
     return code == N_CALL || code == N_PAIR || code == N_LINK || code == N_PLUS || code == N_SAME;
   }
@@ -515,7 +511,8 @@ public final class TypeScribe {
 
   /** How many TYPES and ROWS stand beneath a code. */
   private static int beneath(int code) {
-    if (code == FUNCTION || code == PAIR || isField(code)) {
+    boolean isOfField = code >= FIELD && code < FIELD + LABELS;
+    if (code == FUNCTION || code == PAIR || isOfField) {
       return 2;
     }
     return code == LIST || code == RECORD ? 1 : 0;
@@ -551,12 +548,6 @@ public final class TypeScribe {
 
     int get(int place) {
       return has(place) ? items[place] : 0;
-    }
-
-    void set(int place, int item) {
-      if (has(place)) {
-        items[place] = item;
-      }
     }
 
     void put(int item) {
@@ -808,13 +799,13 @@ public final class TypeScribe {
     // which walk came by a cell last, and what it left there
     private int[] marks = new int[FIRST_CELLS];
     private int[] tags = new int[FIRST_CELLS];
+    // cells that were MADE ONE lead to the same cell by these
+    private int[] likes = new int[FIRST_CELLS];
     private int count;
     private int walk;
-    private int numbered;
     private boolean isOverfull;
     private final Pile ahead = new Pile(64);
     private final int[] cellsOfCodes = new int[MOST_TOLD_CODES];
-    private final int[] ranks = new int[LABELS];
 
     void wipe() {
       count = 0;
@@ -844,12 +835,14 @@ public final class TypeScribe {
         kids = Arrays.copyOf(kids, 2 * room);
         marks = Arrays.copyOf(marks, room);
         tags = Arrays.copyOf(tags, room);
+        likes = Arrays.copyOf(likes, room);
       }
       int cell = count;
       kinds[cell] = kind;
       kids[2 * cell] = one;
       kids[2 * cell + 1] = other;
       marks[cell] = 0;
+      likes[cell] = cell;
       count++;
       return cell;
     }
@@ -874,8 +867,34 @@ public final class TypeScribe {
     /** What a cell is, when all that was found out is looked at. */
     int known(int cell) {
       int at = cell;
-      for (int i = 0; i < MOST_CELLS && kind(at) == BOUND; i++) {
-        at = one(at);
+      for (int i = 0; i < count && at >= 0 && at < count && kinds[at] == BOUND; i++) {
+        at = kids[2 * at];
+      }
+      return at;
+    }
+
+    /** Tells that two cells are the same TYPE from now on, as they were MADE ONE. */
+    void setAlike(int one, int other) {
+      int from = firstAlike(one);
+      int to = firstAlike(other);
+      if (from >= 0 && from < count && to >= 0 && to < count) {
+        likes[from] = to;
+      }
+    }
+
+    boolean areAlike(int one, int other) {
+      return firstAlike(one) == firstAlike(other);
+    }
+
+    private int firstAlike(int cell) {
+      int at = cell;
+      for (int i = 0; i < count && at >= 0 && at < count && likes[at] != at; i++) {
+        // each step makes the way shorter for those that come later
+        int next = likes[at];
+        if (next >= 0 && next < count) {
+          likes[at] = likes[next];
+        }
+        at = next;
       }
       return at;
     }
@@ -1049,124 +1068,70 @@ public final class TypeScribe {
       }
     }
 
-    /** The first FIELD of a kind in a ROW; if there is none, what the ROW ends with. */
-    int firstField(int row, int kind) {
+    /** The FIELD of a kind in a ROW behind so many others of it; if there is none, the ROW's end. */
+    int fieldOf(int row, int kind, int before) {
+      int passed = 0;
       int at = known(row);
-      for (int i = 0; i < MOST_CELLS && isField(kind(at)) && kind(at) != kind; i++) {
+      for (int i = 0; i < count && isField(kind(at)); i++) {
+        if (kind(at) == kind) {
+          if (passed == before) {
+            return at;
+          }
+          passed++;
+        }
         at = known(other(at));
       }
       return at;
     }
 
     int endOfRow(int row) {
-      return firstField(row, END);
+      return fieldOf(row, END, 0);
     }
 
-    /** A ROW without one FIELD of it; what stands behind that one is shared. */
-    int without(int row, int gone) {
+    /** A ROW without the first FIELDS of each label, as many as are gone; the end is shared. */
+    int rest(int row, int[] gone) {
+      int more = 0;
+      for (int label = 0; label < LABELS; label++) {
+        more += gone[label];
+      }
       int first = NONE;
       int last = NONE;
       int at = known(row);
-      for (int i = 0; i < MOST_CELLS && at != gone && isField(kind(at)); i++) {
-        int copy = cell(kind(at), one(at), other(gone));
-        if (last == NONE) {
-          first = copy;
-        } else {
-          setKid(2 * last + 1, copy);
-        }
-        last = copy;
-        at = known(other(at));
-      }
-      return last == NONE ? other(gone) : first;
-    }
-
-    /** VARIABLES are told as 100, 101, and so on from here. */
-    void startTelling() {
-      walk++;
-      numbered = 0;
-    }
-
-    /** Puts the codes of a TYPE behind a row, and tells how many VARIABLES were told till now. */
-    int tell(int type, Pile row) {
-      ahead.wipe();
-      ahead.put(type);
-      for (int i = 0; i < MOST_STEPS && ahead.count > 0; i++) {
-        int next = ahead.take();
-        if (next < 0) {
-          // a single FIELD, as it was put by putFields
-          int field = -1 - next;
-          row.put(kind(field));
-          ahead.put(one(field));
-        } else {
-          tellCell(known(next), row);
-        }
-      }
-      return numbered;
-    }
-
-    private void tellCell(int cell, Pile row) {
-      int kind = kind(cell);
-      if (kind >= VARIABLE) {
-        row.put(VARIABLE + numberOf(cell));
-        return;
-      }
-      row.put(kind);
-      if (kind == RECORD) {
-        putFields(known(one(cell)));
-      } else {
-        putBeneath(cell);
-      }
-    }
-
-    private int numberOf(int variable) {
-      if (!isMarked(variable)) {
-        mark(variable, numbered);
-        numbered++;
-      }
-      return tag(variable);
-    }
-
-    /** Puts the FIELDS of a ROW ahead so that they are told by their labels, and then its end. */
-    private void putFields(int row) {
-      Arrays.fill(ranks, 0);
-      int fields = 0;
-      int at = row;
-      for (int i = 0; i < MOST_CELLS && isField(kind(at)); i++) {
-        ranks[kind(at) - FIELD]++;
-        fields++;
-        at = known(other(at));
-      }
-      ahead.put(at);
-      int top = ahead.count + fields - 1;
-      for (int i = 0; i < fields; i++) {
-        ahead.put(NONE);
-      }
-      ranksBefore();
-      at = row;
-      for (int i = 0; i < fields && isField(kind(at)); i++) {
+      int most = count;
+      for (int i = 0; i < most && more > 0 && isField(kind(at)); i++) {
         int label = kind(at) - FIELD;
-        ahead.set(top - ranks[label], -1 - at);
-        ranks[label]++;
+        if (gone[label] > 0) {
+          gone[label]--;
+          more--;
+        } else {
+          int copy = cell(kind(at), one(at), NONE);
+          setKid(2 * last + 1, copy);
+          first = last == NONE ? copy : first;
+          last = copy;
+        }
         at = known(other(at));
       }
-    }
-
-    /** Turns how many FIELDS each label has into how many have smaller labels. */
-    private void ranksBefore() {
-      int before = 0;
-      for (int label = 0; label < LABELS; label++) {
-        int here = ranks[label];
-        ranks[label] = before;
-        before += here;
-      }
+      setKid(2 * last + 1, at);
+      return last == NONE ? at : first;
     }
   }
 
-  /** Makes TYPES one. */
+  /**
+   * Makes TYPES one. What waits to be done lies in a pile: two TYPES or two ROWS to be MADE ONE,
+   * and two TYPES that are alike as soon as all that lies above them is done. TYPES that are alike
+   * are not looked at again: a few cells may stand for more codes than could ever be walked over.
+   * They must not be taken for alike any earlier, or an ENDLESS in them would not be seen.
+   */
   private static final class Maker {
+    private static final int TYPES = 0;
+    private static final int ROWS = 1;
+    private static final int DONE = 2;
+
     private final Store store = new Store();
     private final Pile work = new Pile(64);
     private final Pile bound = new Pile(64);
+    // how many FIELDS of each label the right ROW is without
+    private final int[] gone = new int[LABELS];
     private int left;
     private int right;
     private int why;
@@ -1174,6 +1139,8 @@ public final class TypeScribe {
     void wipe() {
       store.wipe();
       why = 0;
+      left = NONE;
+      right = NONE;
     }
 
     /** Whether a left and a right one could be made one; if not, all VARIABLES are as they were. */
@@ -1183,29 +1150,17 @@ public final class TypeScribe {
       why = 0;
       work.wipe();
       bound.wipe();
-      put(leftType, rightType);
+      put(TYPES, leftType, rightType);
       for (int i = 0; i < MOST_STEPS && why == 0 && work.count > 0; i++) {
+        int task = work.take();
         int other = store.known(work.take());
         int one = store.known(work.take());
-        if (one == other) {
-          continue;
-        }
-        if (store.kind(one) == VARIABLE || store.kind(other) == VARIABLE) {
-          int variable = store.kind(one) == VARIABLE ? one : other;
-          int meaning = variable == one ? other : one;
-          if (store.isIn(variable, meaning)) {
-            why = ENDLESS;
-          } else {
-            bind(variable, meaning);
-          }
-        } else if (isField(store.kind(one))) {
-          int match = matching(one, other);
-          if (match != NONE) {
-            put(store.other(one), store.without(other, match));
-            put(store.one(one), store.one(match));
-          }
+        if (task == TYPES) {
+          makeTypesOne(one, other);
+        } else if (task == ROWS) {
+          makeRowsOne(one, other);
         } else {
-          stepBeneath(one, other);
+          store.setAlike(one, other);
         }
       }
       for (int i = 0; i < bound.count && why != 0; i++) {
@@ -1214,9 +1169,20 @@ public final class TypeScribe {
       return why == 0;
     }
 
-    private void put(int one, int other) {
+    private void put(int task, int one, int other) {
       work.put(one);
       work.put(other);
+      work.put(task);
+    }
+
+    /** The right ROW is meant without the FIELDS that are gone. */
+    private void putRows(int one, int other) {
+      for (int label = 0; label < LABELS; label++) {
+        work.put(gone[label]);
+      }
+      work.put(one);
+      work.put(other);
+      work.put(ROWS);
     }
 
     private void bind(int variable, int meaning) {
@@ -1224,52 +1190,304 @@ public final class TypeScribe {
       bound.put(variable);
     }
 
-    private void stepBeneath(int one, int other) {
-      int kind = store.kind(one);
-      if (kind != store.kind(other) || kind > VARIABLE) {
-        why = UNLIKE;
-        return;
-      }
-      int beneath = beneath(kind);
-      if (beneath == 2) {
-        put(store.other(one), store.other(other));
-      }
-      if (beneath >= 1) {
-        put(store.one(one), store.one(other));
+    private void settle(int variable, int meaning) {
+      if (store.isIn(variable, meaning)) {
+        why = ENDLESS;
+      } else {
+        bind(variable, meaning);
       }
     }
 
-    /** The FIELD in a right ROW that goes with the first one of a left ROW; NONE if it FAILS. */
-    private int matching(int one, int other) {
+    private void makeTypesOne(int one, int other) {
       int kind = store.kind(one);
-      int match = store.firstField(other, kind);
-      if (store.kind(match) == kind) {
-        return match;
+      if (one == other) {
+        return;
       }
-      if (store.kind(match) != VARIABLE) {
+      if (kind == VARIABLE) {
+        settle(one, other);
+      } else if (store.kind(other) == VARIABLE) {
+        settle(other, one);
+      } else if (kind != store.kind(other) || kind > VARIABLE) {
         why = UNLIKE;
-        return NONE;
+      } else if (beneath(kind) > 0 && !store.areAlike(one, other)) {
+        put(DONE, one, other);
+        putBeneath(kind, one, other);
       }
-      if (store.endOfRow(one) == match) {
-        why = ENDLESS;
-        return NONE;
+    }
+
+    private void putBeneath(int kind, int one, int other) {
+      if (kind == RECORD) {
+        Arrays.fill(gone, 0);
+        putRows(store.one(one), store.one(other));
+        return;
       }
-      int inside = store.leaf(VARIABLE);
-      int field = store.cell(kind, inside, store.leaf(VARIABLE));
-      bind(match, field);
-      return field;
+      if (beneath(kind) == 2) {
+        put(TYPES, store.other(one), store.other(other));
+      }
+      put(TYPES, store.one(one), store.one(other));
+    }
+
+    private void makeRowsOne(int one, int wholeRight) {
+      for (int label = LABELS - 1; label >= 0; label--) {
+        gone[label] = work.take();
+      }
+      int other = withoutGoneAhead(wholeRight);
+      boolean isWhole = gone[0] == 0 && gone[1] == 0 && gone[2] == 0 && gone[3] == 0;
+      int kind = store.kind(one);
+      if (one == other && isWhole) {
+        return;
+      }
+      if (kind == VARIABLE) {
+        settle(one, isWhole ? other : store.rest(other, gone));
+      } else if (store.kind(other) == VARIABLE) {
+        settle(other, one);
+      } else if (isField(kind)) {
+        makeFieldsOne(kind, one, other);
+      } else if (kind != store.kind(other) || kind > VARIABLE) {
+        why = UNLIKE;
+      }
+    }
+
+    /** Where a right ROW begins, if what is gone of it stands first; less is gone then. */
+    private int withoutGoneAhead(int row) {
+      int at = store.known(row);
+      for (int i = 0; i < MOST_CELLS && isField(store.kind(at)); i++) {
+        int label = store.kind(at) - FIELD;
+        if (gone[label] == 0) {
+          return at;
+        }
+        gone[label]--;
+        at = store.known(store.other(at));
+      }
+      return at;
+    }
+
+    /** The left ROW begins with a FIELD of this kind; the right one is no VARIABLE alone. */
+    private void makeFieldsOne(int kind, int one, int other) {
+      int label = kind - FIELD;
+      int match = store.fieldOf(other, kind, gone[label]);
+      if (store.kind(match) != kind) {
+        if (store.kind(match) != VARIABLE) {
+          why = UNLIKE;
+          return;
+        }
+        if (store.endOfRow(one) == match) {
+          why = ENDLESS;
+          return;
+        }
+        int end = match;
+        int inside = store.leaf(VARIABLE);
+        match = store.cell(kind, inside, store.leaf(VARIABLE));
+        bind(end, match);
+      }
+      gone[label]++;
+      putRows(store.other(one), other);
+      put(TYPES, store.one(one), store.one(match));
+    }
+  }
+
+  /**
+   * Tells TYPES of a store code by code. A TYPE is not written out for this, as it may have very
+   * many codes: for each cell it is known how many there are and what they do to a checksum.
+   */
+  private static final class Teller {
+    private final Store store;
+    private int[] stamps = new int[1];
+    private int[] numbers = new int[1];
+    private long[] extents = new long[1];
+    // codes turn a checksum d into d * factor + sum
+    private long[] factors = new long[1];
+    private long[] sums = new long[1];
+    private int stamp;
+    private int variables;
+    private final Pile ahead = new Pile(64);
+    private final Pile pieces = new Pile(64);
+    private long extent;
+    private long factor;
+    private long sum;
+
+    Teller(Store told) {
+      store = told;
+    }
+
+    /** From here on, VARIABLES are told as they come in the one TYPE, and then in the other. */
+    void look(int one, int other) {
+      if (stamps.length < store.count) {
+        int room = 2 * store.count;
+        stamps = new int[room];
+        numbers = new int[room];
+        extents = new long[room];
+        factors = new long[room];
+        sums = new long[room];
+      }
+      stamp++;
+      variables = 0;
+      ahead.wipe();
+      ahead.put(other);
+      ahead.put(one);
+      for (int i = 0; i < MOST_STEPS && ahead.count > 0; i++) {
+        int next = ahead.take();
+        if (next < NONE) {
+          finish(NONE - 1 - next);
+        } else if (has(next) && !isSeen(store.known(next))) {
+          open(store.known(next));
+        }
+      }
+    }
+
+    private boolean has(int cell) {
+      return cell >= 0 && cell < store.count && cell < stamps.length;
+    }
+
+    private boolean isSeen(int cell) {
+      return cell >= 0 && cell < stamps.length && stamps[cell] == stamp;
+    }
+
+    /** All that is beneath a cell comes ahead of its own end, in the order in which it is told. */
+    private void open(int cell) {
+      if (store.kind(cell) >= VARIABLE && has(cell)) {
+        numbers[cell] = variables;
+        variables++;
+      }
+      ahead.put(NONE - 1 - cell);
+      takeApart(cell);
+      for (int i = pieces.count - 1; i >= 0; i--) {
+        if (pieces.get(i) >= 0) {
+          ahead.put(pieces.get(i));
+        }
+      }
+    }
+
+    private void finish(int cell) {
+      takeApart(cell);
+      startAdding();
+      for (int i = 0; i < pieces.count; i++) {
+        add(pieces.get(i));
+      }
+      if (has(cell)) {
+        stamps[cell] = stamp;
+        extents[cell] = extent;
+        factors[cell] = factor;
+        sums[cell] = sum;
+      }
+    }
+
+    /** The pieces of a cell in order: a code alone as NONE - 1 - its cell, or all of a cell. */
+    private void takeApart(int cell) {
+      pieces.wipe();
+      pieces.put(NONE - 1 - cell);
+      int beneath = beneath(store.kind(cell));
+      if (store.kind(cell) == RECORD) {
+        takeRowApart(store.known(store.one(cell)));
+      } else if (beneath >= 1) {
+        pieces.put(store.known(store.one(cell)));
+      }
+      if (beneath == 2) {
+        pieces.put(store.known(store.other(cell)));
+      }
+    }
+
+    private void takeRowApart(int row) {
+      int at = row;
+      for (int kind = FIELD; kind < FIELD + LABELS; kind++) {
+        at = row;
+        for (int i = 0; i < MOST_CELLS && isField(store.kind(at)); i++) {
+          if (store.kind(at) == kind) {
+            pieces.put(NONE - 1 - at);
+            pieces.put(store.known(store.one(at)));
+          }
+          at = store.known(store.other(at));
+        }
+      }
+      pieces.put(at);
+    }
+
+    private void startAdding() {
+      extent = 0;
+      factor = 1;
+      sum = 0;
+    }
+
+    private void add(int piece) {
+      if (piece < 0) {
+        extent = extent >= MOST_CODES ? MOST_CODES : extent + 1;
+        factor = factor * 31;
+        sum = sum * 31 + codeOfCell(NONE - 1 - piece);
+      } else if (isSeen(piece)) {
+        extent = extent >= MOST_CODES - extents[piece] ? MOST_CODES : extent + extents[piece];
+        sum = sum * factors[piece] + sums[piece];
+        factor = factor * factors[piece];
+      }
+    }
+
+    private int codeOfCell(int cell) {
+      int kind = store.kind(cell);
+      return kind >= VARIABLE && has(cell) ? VARIABLE + numbers[cell] : kind;
+    }
+
+    /** How many codes a TYPE has that was looked at. */
+    private long codes(int type) {
+      int cell = store.known(type);
+      return isSeen(cell) ? extents[cell] : 0;
+    }
+
+    /** How many codes of a TYPE are told, as far as an int counts. */
+    int extentOf(int type) {
+      long codes = codes(type);
+      return codes > LAST_PLACE ? LAST_PLACE : (int) codes;
+    }
+
+    int codeAt(int type, int place) {
+      int cell = place >= 0 && place < codes(type) ? cellAt(type, place) : NONE;
+      return cell == NONE ? NONE : codeOfCell(cell);
+    }
+
+    /** What a checksum becomes by all codes of a TYPE that have a place. */
+    long digestFrom(long start, int type) {
+      startAdding();
+      if (codes(type) > LAST_PLACE) {
+        cellAt(type, LAST_PLACE + 1L);
+      } else if (codes(type) > 0) {
+        add(store.known(type));
+      }
+      return start * factor + sum;
+    }
+
+    /** The cell whose code stands at a place of a TYPE; what is ahead of it is added up. */
+    private int cellAt(int type, long place) {
+      int cell = store.known(type);
+      long more = place;
+      startAdding();
+      for (int depth = 0; depth < MOST_CELLS && cell >= 0; depth++) {
+        takeApart(cell);
+        cell = NONE;
+        for (int i = 0; i < pieces.count && cell == NONE; i++) {
+          int piece = pieces.get(i);
+          long here = piece < 0 ? 1 : codes(piece);
+          if (more >= here) {
+            more -= here;
+            add(piece);
+          } else if (piece < 0) {
+            return NONE - 1 - piece;
+          } else {
+            cell = piece;
+          }
+        }
+      }
+      return NONE;
     }
   }
 
   /** Finds the TYPES of NODES. */
   private static final class Finder {
-    private final Nodes nodes = new Nodes();
-    private final Told told = new Told();
-    private final Pile[] assumed = new Pile[NAMES];
+    private final Nodes nodes;
+    private final Told told;
+    private final Pile[] assumed;
     // the TYPE that wouldBe() asks about
     private final Pile asked = new Pile(MOST_TOLD);
     private final Maker maker = new Maker();
     private final Store store = maker.store;
+    private final Teller teller = new Teller(store);
     private final Pile row = new Pile(MOST_TOLD);
     private final int[] around = new int[NAMES];
     private final int[] found = new int[MOST_NODES];
@@ -1279,10 +1497,10 @@ public final class TypeScribe {
     private int why;
     private int failedAt;
 
-    Finder() {
-      for (int i = 0; i < NAMES; i++) {
-        assumed[i] = new Pile(LARGEST_ASSUMED);
-      }
+    Finder(Nodes built, Told types, Pile[] rows) {
+      nodes = built;
+      told = types;
+      assumed = rows;
     }
 
     /** Finds the TYPE of a NODE, with one left open and the asked TYPE written at one (or NONE). */
@@ -1299,42 +1517,33 @@ public final class TypeScribe {
       return why;
     }
 
-    /** Puts the TYPE of a NODE behind a row, and tells how many VARIABLES it has. */
-    int tellType(int node, Pile into) {
-      store.startTelling();
-      return store.tell(node >= 0 && node < MOST_NODES ? found[node] : NONE, into);
+    /** The TYPE that was found for a NODE, in the store; NONE if none was. */
+    int foundFor(int node) {
+      return node >= 0 && node < MOST_NODES ? found[node] : NONE;
     }
 
-    void tellUnlike(Pile lefts, Pile rights) {
-      store.startTelling();
-      store.tell(maker.left, lefts);
-      store.tell(maker.right, rights);
+    /** Writes the codes of the TYPE of a NODE, of which there are few, in place of a row. */
+    void tellType(int node, Pile into) {
+      int type = foundFor(node);
+      teller.look(type, NONE);
+      into.wipe();
+      for (int place = 0; place < LARGEST_TYPE && place < teller.extentOf(type); place++) {
+        into.put(teller.codeAt(type, place));
+      }
     }
 
     int generalsOf(int node) {
       return node >= 0 && node < MOST_NODES ? generals[node] : NONE;
     }
 
-    /** Whether the other row of codes comes of the one by putting TYPES and ROWS for VARIABLES. */
-    boolean comesOf(Pile one, Pile other) {
+    /**
+     * Whether two rows of codes can be MADE ONE, with different VARIABLES; those of the other one
+     * may be FIXED: then it is asked whether that comes of the one.
+     */
+    boolean canBecome(Pile one, Pile other, int kindOfVariables) {
       maker.wipe();
-      int pattern = store.load(one, VARIABLE);
-      return maker.isMadeOne(pattern, store.load(other, FIXED));
-    }
-
-    int relation(Pile one, Pile other) {
-      if (one.isLike(other)) {
-        return 0;
-      }
-      if (comesOf(one, other)) {
-        return 1;
-      }
-      if (comesOf(other, one)) {
-        return 2;
-      }
-      maker.wipe();
-      int first = store.load(one, VARIABLE);
-      return maker.isMadeOne(first, store.load(other, VARIABLE)) ? 3 : 4;
+      int left = store.load(one, VARIABLE);
+      return maker.isMadeOne(left, store.load(other, kindOfVariables));
     }
 
     private int failWith(int reason, int node) {
@@ -1418,7 +1627,7 @@ public final class TypeScribe {
       int name = nodes.detail(node);
       int type = aroundOf(name);
       if (type != NONE) {
-        return store.freshCopy(type);
+        return store.isTooLarge(type) ? failWith(TOO_LARGE, node) : store.freshCopy(type);
       }
       if (name < 0 || name >= NAMES || assumed[name].count == 0) {
         return failWith(UNKNOWN, node);
@@ -1568,88 +1777,105 @@ public final class TypeScribe {
     }
   }
 
-  /** What the latest find() told. */
+  /** What the latest find() told; the TYPES themselves are in its finder. */
   private static final class Result {
-    private final Pile codes = new Pile(LARGEST_TYPE);
-    private final int[] starts = new int[MOST_NODES];
-    private final int[] extents = new int[MOST_NODES];
-    private final int[] generals = new int[MOST_NODES];
-    private final Pile lefts = new Pile(LARGEST_TYPE);
-    private final Pile rights = new Pile(LARGEST_TYPE);
+    private final Finder finder;
+    private final Teller teller;
     private int why = NONE;
-    private int failedAt = NONE;
     private int variables = NONE;
-    private int kept;
+    private int shown = NONE;
+    private int shownSecond = NONE;
 
-    Result() {
-      Arrays.fill(generals, NONE);
+    Result(Finder kept) {
+      finder = kept;
+      teller = kept.teller;
     }
 
-    void startAnew(int reason, int node) {
+    void startAnew(int reason, int root) {
       why = reason;
-      failedAt = node;
+      shown = NONE;
+      shownSecond = NONE;
       variables = NONE;
-      kept = 0;
-      codes.wipe();
-      lefts.wipe();
-      rights.wipe();
-      Arrays.fill(extents, 0);
-      Arrays.fill(generals, NONE);
-    }
-
-    private boolean isNumber(int node) {
-      return node >= 0 && node < MOST_NODES;
-    }
-
-    /** From here on, what is put behind the codes is the TYPE of this NODE. */
-    void begin(int node, int general) {
-      if (isNumber(node)) {
-        starts[node] = codes.count;
-        generals[node] = general;
-        kept++;
+      if (why == 0) {
+        show(typeFor(root), NONE);
+        variables = teller.variables;
       }
     }
 
-    void finish(int node) {
-      if (isNumber(node)) {
-        extents[node] = codes.count - starts[node];
+    int variablesOfAll() {
+      return variables;
+    }
+
+    int failedAt() {
+      return why > 0 ? finder.failedAt : NONE;
+    }
+
+    private void show(int one, int other) {
+      if (one != shown || other != shownSecond) {
+        teller.look(one, other);
+        shown = one;
+        shownSecond = other;
       }
+    }
+
+    private int typeFor(int node) {
+      return why == 0 ? finder.foundFor(node) : NONE;
+    }
+
+    private int unlikeType(boolean isRight) {
+      if (why != UNLIKE && why != ENDLESS) {
+        return NONE;
+      }
+      return isRight ? finder.maker.right : finder.maker.left;
     }
 
     int codeAt(int node, int place) {
-      return place >= 0 && place < extent(node) ? codes.get(starts[node] + place) : NONE;
+      int type = typeFor(node);
+      show(type, NONE);
+      return teller.codeAt(type, place);
     }
 
     int extent(int node) {
-      return isNumber(node) ? extents[node] : 0;
+      int type = typeFor(node);
+      show(type, NONE);
+      return teller.extentOf(type);
     }
 
     int generalsOf(int node) {
-      return isNumber(node) ? generals[node] : NONE;
+      return why == 0 ? finder.generalsOf(node) : NONE;
+    }
+
+    int unlikeAt(boolean isRight, int place) {
+      show(unlikeType(false), unlikeType(true));
+      return teller.codeAt(unlikeType(isRight), place);
     }
 
     double mean() {
-      return kept == 0 ? 0.0 : (double) codes.count / (double) kept;
+      long sum = 0;
+      int kept = 0;
+      for (int node = 0; node < MOST_NODES; node++) {
+        int type = typeFor(node);
+        if (type != NONE) {
+          show(type, NONE);
+          sum += teller.extentOf(type);
+          kept++;
+        }
+      }
+      return kept == 0 ? 0.0 : (double) sum / (double) kept;
     }
 
     long digestFrom(long start) {
       long d = start;
       for (int node = 0; node < MOST_NODES; node++) {
-        d = d * 31 + extents[node];
-        d = d * 31 + generals[node];
-        for (int place = 0; place < extents[node]; place++) {
-          d = d * 31 + codes.get(starts[node] + place);
-        }
+        int type = typeFor(node);
+        show(type, NONE);
+        d = d * 31 + teller.extentOf(type);
+        d = d * 31 + generalsOf(node);
+        d = teller.digestFrom(d, type);
       }
-      return digestOf(rights, digestOf(lefts, d));
-    }
-
-    private static long digestOf(Pile row, long start) {
-      long d = start;
-      for (int i = 0; i < row.count; i++) {
-        d = d * 31 + row.get(i);
-      }
-      return d;
+      show(unlikeType(false), unlikeType(true));
+      d = teller.digestFrom(d, unlikeType(false));
+      return teller.digestFrom(d, unlikeType(true));
     }
   }
 }

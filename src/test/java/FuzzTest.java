@@ -289,6 +289,120 @@ public final class FuzzTest {
       }
     }
 
+    // ---- pairs of TYPES that are like one another
+
+    /** A TYPE or a ROW that is to be told. */
+    static final class Sketch {
+      int code;
+      Sketch one, other;
+
+      Sketch(int code, Sketch one, Sketch other) {
+        this.code = code;
+        this.one = one;
+        this.other = other;
+      }
+
+      int size() {
+        return 1 + (one == null ? 0 : one.size()) + (other == null ? 0 : other.size());
+      }
+    }
+
+    Sketch sketch(int budget, int variables) {
+      int k = budget < 3 ? below(6) : below(14);
+      if (k < 1) return new Sketch(below(2), null, null);
+      if (k < 6) return new Sketch(20 + below(variables), null, null);
+      if (k < 7) return new Sketch(4, sketch(budget - 1, variables), null);
+      if (k < 11) return new Sketch(5, sketchRow(budget - 1, variables), null);
+      return new Sketch(2 + below(2), sketch(budget / 2, variables), sketch(budget / 2, variables));
+    }
+
+    Sketch sketchRow(int budget, int variables) {
+      int k = below(8);
+      if (budget < 3 || k < 2) {
+        return new Sketch(below(3) == 0 ? 7 : 30 + below(variables), null, null);
+      }
+      int share = 1 + below(budget / 2);
+      return new Sketch(10 + below(4), sketch(share, variables),
+          sketchRow(budget - 1 - share, variables));
+    }
+
+    /** Much the same, with some of it in another order, or something else there. */
+    Sketch altered(Sketch s, int variables) {
+      boolean row = s.code == 7 || (s.code >= 10 && s.code <= 13) || s.code >= 30;
+      int k = below(30);
+      if (k == 0) return row ? sketchRow(4, variables) : sketch(4, variables);
+      if (k < 4) return new Sketch((row ? 30 : 20) + below(variables), null, null);
+      if (s.one == null) return s;
+      if (s.other == null) return new Sketch(s.code, altered(s.one, variables), null);
+      Sketch one = altered(s.one, variables), other = altered(s.other, variables);
+      if (row && k < 14 && other.one != null) {
+        return new Sketch(other.code, other.one, new Sketch(s.code, one, other.other));
+      }
+      if (row && k == 14) return other;
+      return new Sketch(s.code, one, other);
+    }
+
+    int tellSketch(Sketch s) {
+      int a = s.one == null ? -1 : tellSketch(s.one);
+      int b = s.other == null ? -1 : tellSketch(s.other);
+      both("type(" + s.code + "," + a + "," + b + ")", () -> x.type(s.code, a, b),
+          () -> o.type(s.code, a, b));
+      return o.told.size() - 1;
+    }
+
+    int writtenName(int name, int type) {
+      both("name(" + name + ")", () -> x.name(name), () -> o.build(2, name, -1));
+      int of = o.nodes.size() - 1;
+      both("written(" + of + "," + type + ")", () -> x.written(of, type), () -> o.written(of, type));
+      return of + 1;
+    }
+
+    void askBoth(int one, int other) {
+      Object d = both("compare(" + one + "," + other + ")", () -> x.compare(one, other),
+          () -> o.compare(one, other));
+      if (d instanceof Integer) seen[6 + (Integer) d]++;
+    }
+
+    void findAndTell(int root) {
+      Object c = both("find(" + root + ")", () -> x.find(root), () -> o.find(root));
+      if (c instanceof Integer) seen[(Integer) c]++;
+      both("digest()", () -> x.digest(), () -> o.digest());
+      both("culprit(" + root + ")", () -> x.culprit(root), () -> o.culprit(root));
+    }
+
+    /** Two WRITTEN TYPES with VARIABLES of their own, or with the same ones. */
+    void goPairs(int rounds) {
+      for (int i = 0; i < rounds; i++) {
+        both("clear()", () -> x.clear(), () -> o.clear());
+        if (i == 0) {
+          tellRow(new int[] {20}, new int[1]);
+          both("assume(0,0)", () -> x.assume(0, 0), () -> o.assume(0, 0));
+        }
+        int variables = 1 + below(6);
+        Sketch s = sketch(4 + below(20), variables), t = altered(s, variables);
+        if (below(8) == 0) t = sketch(4 + below(14), variables);
+        if (s.size() + t.size() > 38) continue;
+        if (below(2) == 0) {
+          int k = tellSketch(s), l = tellSketch(t);
+          int one = writtenName(0, k), other = writtenName(0, l);
+          askBoth(one, other);
+          askBoth(other, one);
+          both("canBe", () -> x.canBe(one, l), () -> o.canBe(one, l));
+          both("canBe", () -> x.canBe(other, k), () -> o.canBe(other, k));
+          both("wouldBe", () -> x.wouldBe(one, one, l), () -> o.wouldBe(one, one, l));
+          both("same", () -> x.two(19, one, other), () -> o.two(19, one, other));
+        } else {
+          int w = writtenName(1, tellSketch(new Sketch(3, s, t)));
+          both("first", () -> x.half(false, w), () -> o.build(9, -1, -1, w));
+          both("name", () -> x.name(1), () -> o.build(2, 1, -1));
+          both("second", () -> x.half(true, w + 2), () -> o.build(10, -1, -1, w + 2));
+          both("same", () -> x.two(19, w + 1, w + 3), () -> o.two(19, w + 1, w + 3));
+          both("fun", () -> x.fun(1, w + 4), () -> o.build(3, 1, -1, w + 4));
+        }
+        findAndTell(o.nodes.size() - 1);
+      }
+    }
+
     int leafIn(List<Integer> scope) {
       if (!scope.isEmpty() && below(4) > 0) {
         int n = scope.get(below(scope.size()));
@@ -412,6 +526,8 @@ public final class FuzzTest {
           run.goGrowing(20);
         } else if (seed % 8 == 3) {
           run.goTower(30);
+        } else if (seed % 8 == 5) {
+          run.goPairs(40);
         } else {
           run.goWhole(12, Run.FLAVOURS[(int) (seed / 4 % Run.FLAVOURS.length)]);
         }
