@@ -24,18 +24,19 @@ public final class FaceTest {
     "\\bwhile \\(true", "for \\(;;", "\\bequals\\(|hashCode|toString",
   };
 
-  /** The signatures of the document's interface, without what they throw. */
+  /** The signatures of the document's interface, with what they throw in its order. */
   static List<String> faceOfDocument(String document) {
     List<String> face = new ArrayList<>();
     String text = document.substring(document.indexOf("```java"));
     text = text.substring(0, text.indexOf("## Terms"));
-    Matcher m = Pattern.compile("public (\\w+) (\\w+)\\(([^)]*)\\)").matcher(text);
+    Matcher m = Pattern.compile("public (\\w+) (\\w+)\\(([^)]*)\\)(?: throws ([^;]*))?;").matcher(text);
     while (m.find()) {
       List<String> types = new ArrayList<>();
       for (String p : m.group(3).split(",")) {
         if (!p.trim().isEmpty()) types.add(p.trim().split(" ")[0]);
       }
-      face.add(m.group(1) + " " + m.group(2) + types);
+      List<String> thrown = m.group(4) == null ? new ArrayList<>() : Arrays.asList(m.group(4).split(", "));
+      face.add(m.group(1) + " " + m.group(2) + types + " throws " + thrown);
     }
     return face;
   }
@@ -46,7 +47,9 @@ public final class FaceTest {
       if (Modifier.isPrivate(m.getModifiers()) || m.isSynthetic()) continue;
       List<String> types = new ArrayList<>();
       for (Class<?> c : m.getParameterTypes()) types.add(c.getName());
-      face.add(m.getReturnType().getName() + " " + m.getName() + types);
+      List<String> thrown = new ArrayList<>();
+      for (Class<?> c : m.getExceptionTypes()) thrown.add(c.getSimpleName());
+      face.add(m.getReturnType().getName() + " " + m.getName() + types + " throws " + thrown);
     }
     return face;
   }
@@ -57,6 +60,7 @@ public final class FaceTest {
     Collections.sort(due);
     Collections.sort(got);
     check.equal("methods of the face", got, due);
+    check.isTrue("the document's face is read", due.size() == 38);
     check.isTrue("public and final", TypeScribe.class.getModifiers() == (Modifier.PUBLIC | Modifier.FINAL));
     Constructor<?>[] made = TypeScribe.class.getDeclaredConstructors();
     check.isTrue("one constructor", made.length == 1 && Modifier.isPublic(made[0].getModifiers()));
